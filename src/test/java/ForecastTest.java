@@ -9,6 +9,7 @@ final class ForecastTest {
         comesTooLate();
         darkest();
         darkestOfTheRest();
+        darkestOfOneMinute();
         needs();
         foresee();
         foreseeIsWhatComes();
@@ -136,6 +137,25 @@ final class ForecastTest {
         DUE.is("none is dark till the night is over", -1, one.darkest());
     }
 
+    private static void darkestOfOneMinute() {
+        for (int oil = 8; oil <= 9; oil++) {
+            LampHills hills = new LampHills();
+            hills.corner(0);
+            hills.corner(0);
+            hills.street(0, 1, 1);
+            hills.lamp(0, 2);
+            hills.hire(0, 9, oil);
+            hills.pass(590);
+            hills.round(0, 0);
+            DUE.is("two dark minutes at least", 0, hills.darkest());
+            hills.pass(2);
+            // The lamp is lit in the minute 592, so with 8 oil it is dark behind the minute 599 alone.
+            DUE.is("with the oil " + oil, oil == 8 ? 0 : -1, hills.darkest());
+            hills.pass(7);
+            DUE.is("with the oil " + oil + " at last", oil == 8 ? 0 : -1, hills.darkest());
+        }
+    }
+
     /** Lets the rest of the night go by, and looks into each minute. */
     private static void dueDarkest(String when, LampHills hills) {
         int told = hills.darkest();
@@ -173,6 +193,11 @@ final class ForecastTest {
                 int most = Math.max(0, 9 + height / 10 - 4);
                 DUE.is("needs with the strongest wind", most, hills.needs(0));
             }
+        }
+        for (int hour = 0; hour < 10; hour++) {
+            LampHills windy = twoStreets(0);
+            windy.setWind(hour, 9);
+            DUE.is("needs with a wind in the hour " + hour + " alone", 9 + 2 - 4, windy.needs(1));
         }
         LampHills hills = twoStreets(0);
         DUE.refused("needs(2)", Due.INDEX, hills, () -> hills.needs(2));

@@ -12,10 +12,12 @@ final class MinutesTest {
         firstCornerIfBothAreAsNear();
         goalIsKept();
         roundGoesOn();
+        roundOfTen();
         roundSkipsOthersLamps();
         numbersGoFirst();
         roundWaitsForOil();
         oilInTheLampIsEnough();
+        oneOilIsEnough();
         canFillsUpTo300();
         sootAndOil();
         outBeforeSoot();
@@ -197,6 +199,25 @@ final class MinutesTest {
         DUE.is("the latest one is gone to, if there is no other", 0, hills.lighter(0, 4));
     }
 
+    private static void roundOfTen() {
+        LampHills hills = flat(0, 0);
+        hills.lamp(0, 2);
+        for (int lamp = 1; lamp <= 10; lamp++) {
+            hills.lamp(0, 2);
+        }
+        for (int lamp = 10; lamp >= 1; lamp--) {
+            hills.round(0, lamp);
+        }
+        for (int time = 0; time < 25; time++) {
+            hills.fill(0, 1);
+            hills.pass(1);
+            DUE.is("the lamp of the time " + time, 10 - time % 10, hills.lighter(0, 4));
+            DUE.is("lit for a minute", 1, hills.pass(2));
+            DUE.is("out again", 0, hills.count(5));
+        }
+        DUE.is("the lamp of no round", 0, hills.told(0, 7));
+    }
+
     private static void roundSkipsOthersLamps() {
         LampHills hills = flat(2, 999);
         hills.hire(1, 9, 999);
@@ -255,6 +276,17 @@ final class MinutesTest {
         DUE.is("it is lit with its own oil", 1, hills.pass(3));
         DUE.is("no oil came in", 290, hills.told(0, 3));
         DUE.is("count(9)", 10, hills.count(9));
+    }
+
+    private static void oneOilIsEnough() {
+        LampHills hills = flat(1, 10);
+        hills.setWind(0, 5);
+        hills.pass(11);
+        DUE.is("the wind left 1 oil", 1, hills.told(0, 3));
+        DUE.is("the can is empty", 0, hills.lighter(0, 2));
+        DUE.is("it is lit", 1, hills.pass(3));
+        DUE.is("it used that up", 0, hills.told(0, 3));
+        DUE.is("without oil nobody goes there", 0, hills.pass(100));
     }
 
     private static void canFillsUpTo300() {

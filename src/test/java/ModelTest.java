@@ -37,10 +37,58 @@ final class ModelTest {
     }
 
     public static void main(String[] args) {
+        fullTown();
         for (int run = 0; run < RUNS; run++) {
             new ModelTest(run).play(run);
         }
         DUE.end();
+    }
+
+    /** As many corners, streets, lamps, lighters and lamps of rounds as there can be, for two nights. */
+    private static void fullTown() {
+        LampHills hills = new LampHills();
+        Model model = new Model();
+        for (int corner = 0; corner < 12; corner++) {
+            both(hills, model, Kind.CORNER, corner * 7 % 31, 0, 0);
+        }
+        for (int street = 0; street < 18; street++) {
+            both(hills, model, Kind.STREET, street % 12, (street + 1 + street / 12) % 12, 1 + street % 9);
+        }
+        for (int lamp = 0; lamp < 20; lamp++) {
+            both(hills, model, Kind.LAMP, 17 - lamp % 18, 2 + lamp % 8, 0);
+            both(hills, model, Kind.LID, lamp, lamp % 10, 0);
+        }
+        for (int lighter = 0; lighter < 4; lighter++) {
+            both(hills, model, Kind.HIRE, lighter * 3, 9 - lighter, 999);
+            for (int place = 0; place < 10; place++) {
+                both(hills, model, Kind.ROUND, lighter, (lighter * 5 + place * 3) % 20, 0);
+            }
+        }
+        for (int hour = 0; hour < 10; hour++) {
+            both(hills, model, Kind.WIND, hour, hour, 0);
+        }
+        for (int part = 0; part < 40; part++) {
+            both(hills, model, Kind.COMES, 19, 0, 0);
+            both(hills, model, Kind.DARKEST, 0, 0, 0);
+            both(hills, model, Kind.NEEDS, 19, 0, 0);
+            both(hills, model, Kind.FORESEE, 600, part % 3, 0);
+            both(hills, model, Kind.MEAN, 0, 0, 0);
+            both(hills, model, Kind.PASS, 31, 0, 0);
+            both(hills, model, Kind.FILL, part % 4, 999, 0);
+            both(hills, model, Kind.DAWN, 0, 0, 0);
+        }
+    }
+
+    private static boolean both(LampHills hills, Model model, Kind kind, int... with) {
+        Answer got = answer(() -> onHills(hills, kind, with));
+        Answer want = answer(() -> onModel(model, kind, with));
+        String text = kind + " with " + with[0] + ", " + with[1] + ", " + with[2];
+        if (got.thrown != want.thrown) {
+            DUE.tell(text + " threw " + got.thrown + ", due is " + want.thrown);
+        }
+        DUE.isDouble(text, want.number, got.number);
+        DUE.is("digest() behind " + text, model.digest(), hills.digest());
+        return got.thrown == want.thrown && got.number == want.number;
     }
 
     private int below(int bound) {
@@ -84,17 +132,8 @@ final class ModelTest {
         for (int call = 0; call < CALLS; call++) {
             Kind kind = kind(call < BUILDING_CALLS);
             int[] with = arguments(kind, model, highest, strongest);
-            Answer got = answer(() -> onHills(hills, kind, with));
-            Answer want = answer(() -> onModel(model, kind, with));
-            String text = "run " + run + ", call " + call + ", " + kind + " with " + with[0] + ", "
-                    + with[1] + ", " + with[2];
-            if (got.thrown != want.thrown) {
-                DUE.tell(text + " threw " + got.thrown + ", due is " + want.thrown);
-                return;
-            }
-            DUE.isDouble(text, want.number, got.number);
-            if (hills.digest() != model.digest()) {
-                DUE.tell(text + ": the digest is not as due");
+            if (!both(hills, model, kind, with)) {
+                System.out.println("in the run " + run + ", call " + call);
                 return;
             }
         }
