@@ -119,8 +119,8 @@ final class ForecastTest {
         dueDarkest("both may burn", hills);
         hills.dawn();
         hills.lid(1, 9);
-        hills.setWind(3, 9);
-        hills.pass(100);
+        hills.setWind(9, 9);
+        hills.pass(500);
         dueDarkest("with a wind", hills);
         LampHills one = new LampHills();
         one.corner(0);

@@ -1,7 +1,10 @@
-/** Plays many runs of 512 calls on LampHills and on Model, and compares every answer and digest. */
+/**
+ * Plays many runs of 512 calls on LampHills and on Model, and compares every answer: in every other
+ * run digest() is each second call, so that the first change that is not as due is told.
+ */
 final class ModelTest {
     private static final Due DUE = new Due();
-    private static final int RUNS = 250;
+    private static final int RUNS = 400;
     private static final int CALLS = 512;
     private static final int BUILDING_CALLS = 90;
     private static final int[] ODD = {Integer.MIN_VALUE, -100, -2, -1, 0, 1, 9, 10, 12, 18, 20, 30, 31,
@@ -76,6 +79,7 @@ final class ModelTest {
             both(hills, model, Kind.PASS, 31, 0, 0);
             both(hills, model, Kind.FILL, part % 4, 999, 0);
             both(hills, model, Kind.DAWN, 0, 0, 0);
+            bothDigests(hills, model);
         }
     }
 
@@ -87,8 +91,14 @@ final class ModelTest {
             DUE.tell(text + " threw " + got.thrown + ", due is " + want.thrown);
         }
         DUE.isDouble(text, want.number, got.number);
-        DUE.is("digest() behind " + text, model.digest(), hills.digest());
         return got.thrown == want.thrown && got.number == want.number;
+    }
+
+    private static boolean bothDigests(LampHills hills, Model model) {
+        long want = model.digest();
+        long got = hills.digest();
+        DUE.is("digest()", want, got);
+        return got == want;
     }
 
     private int below(int bound) {
@@ -129,12 +139,18 @@ final class ModelTest {
         // Some runs climb little and are short of wind, so that lamps burn long; others blow hard.
         int highest = run % 3 == 0 ? 3 : 30;
         int strongest = run % 4 == 0 ? 2 : run % 4 == 1 ? 9 : 6;
-        for (int call = 0; call < CALLS; call++) {
-            Kind kind = kind(call < BUILDING_CALLS);
-            int[] with = arguments(kind, model, highest, strongest);
-            if (!both(hills, model, kind, with)) {
+        boolean often = run % 2 == 0;
+        boolean good = true;
+        int building = BUILDING_CALLS;
+        for (int call = 1; good && call <= CALLS; call++) {
+            if (often && call % 2 == 0 || call == CALLS) {
+                good = bothDigests(hills, model);
+            } else {
+                Kind kind = kind(building-- > 0);
+                good = both(hills, model, kind, arguments(kind, model, highest, strongest));
+            }
+            if (!good) {
                 System.out.println("in the run " + run + ", call " + call);
-                return;
             }
         }
     }
