@@ -25,6 +25,13 @@ final class Due {
         }
     }
 
+    void same(String what, String want, String got) {
+        asked++;
+        if (!got.equals(want)) {
+            tell(what + " is " + got + ", due is " + want);
+        }
+    }
+
     /** The call throws just this class, no class below it, and leaves the object as it was. */
     void refused(String call, Class<?> want, LampHills hills, Call made) {
         asked++;
